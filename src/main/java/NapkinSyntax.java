@@ -40,9 +40,9 @@ public final class NapkinSyntax {
 
     private static final Command[] COMMANDS = Command.values();
 
-    private final State now = new State();
-    private final Sentence sentence = new Sentence();
-    private final Service service = new Service(now, sentence);
+    private final Service service = new Service();
+    private final State now = service.state;
+    private final Sentence sentence = service.sentence;
     private final History history = new History();
     private final Text text = new Text();
     private final Line line = new Line();
@@ -655,16 +655,13 @@ public final class NapkinSyntax {
         }
 
         int tableUnder(int napkin) {
-            for (int table = 0; table < TABLES; table++) {
-                if (placeOn(table, napkin) != NONE) {
-                    return table;
-                }
-            }
-            return NONE;
+            int seat = seatUnder(napkin);
+            return seat != NONE ? seat / ROW : NONE;
         }
 
         int placeUnder(int napkin) {
-            return placeOn(tableUnder(napkin), napkin);
+            int seat = seatUnder(napkin);
+            return seat != NONE ? seat % ROW : NONE;
         }
 
         int placesUnder(int napkin) {
@@ -753,9 +750,8 @@ public final class NapkinSyntax {
         }
 
         int remove(int napkin) {
-            int table = tableUnder(napkin);
-            int place = placeOn(table, napkin);
-            removeAt(table, place);
+            int place = placeUnder(napkin);
+            removeAt(tableUnder(napkin), place);
             return place;
         }
 
@@ -791,10 +787,11 @@ public final class NapkinSyntax {
             setOfTable(LAID, table, laid - 1);
         }
 
-        private int placeOn(int table, int napkin) {
-            for (int place = 0; place < laidOn(table); place++) {
-                if (seatedAt(table, place) == napkin) {
-                    return place;
+        // One number for the table and the place: those of table 0 come first.
+        private int seatUnder(int napkin) {
+            for (int seat = 0; seat < TABLES * ROW; seat++) {
+                if (seat % ROW < cells[LAID + seat / ROW] && cells[SEAT + seat] == napkin) {
+                    return seat;
                 }
             }
             return NONE;
@@ -1058,7 +1055,7 @@ public final class NapkinSyntax {
         }
 
         private int foldAt(int number) {
-            return isNumber(number) ? folds[number] : UNFOLDED;
+            return number >= 0 && number < size && number < ROW ? folds[number] : UNFOLDED;
         }
 
         private int colourAt(int number) {
@@ -1095,13 +1092,8 @@ public final class NapkinSyntax {
 
     /** Judges commands and carries them out; called for the face's calls and for texts alike. */
     private static final class Service {
-        private final State state;
-        private final Sentence sentence;
-
-        Service(State state, Sentence sentence) {
-            this.state = state;
-            this.sentence = sentence;
-        }
+        private final State state = new State();
+        private final Sentence sentence = new Sentence();
 
         int judge(Command command, int first, int second, int third) {
             switch (command) {
