@@ -4,15 +4,9 @@ import java.util.Comparator;
 import java.util.Deque;
 import java.util.List;
 import java.util.NoSuchElementException;
-import java.util.regex.Pattern;
 
 /** The document told a second time, with lists, texts and exceptions, for ModelTest to hold answers against. */
 final class Model {
-    private static final Pattern SENTENCE = Pattern.compile("s+fb?(cs+fb?)*");
-    private static final Pattern COMMANDS = Pattern.compile("C(;C)*".replace("C",
-        "(new D|fold D[sfbc]|(open|take|wash|read) D|lay D D|move D DD|stain D\\+D)").replace("D", "[0-9]"));
-    private static final String FOLDS = ".sfbc";
-
     /** Thrown where the document refuses. */
     private static final class Refused extends UnsupportedOperationException {
         final int reason;
@@ -42,7 +36,7 @@ final class Model {
         }
     }
 
-    private static final class World {
+    private static final class Scene {
         final List<Napkin> napkins = new ArrayList<>();
         final List<List<Integer>> tables = new ArrayList<>();
         int[] reads = new int[3];
@@ -50,14 +44,14 @@ final class Model {
         int understood;
         int washed;
 
-        World() {
+        Scene() {
             for (int table = 0; table < 3; table++) {
                 tables.add(new ArrayList<>());
             }
         }
 
-        World copy() {
-            World copy = new World();
+        Scene copy() {
+            Scene copy = new Scene();
             for (Napkin napkin : napkins) {
                 copy.napkins.add(napkin.copy());
             }
@@ -72,9 +66,9 @@ final class Model {
         }
     }
 
-    private World world = new World();
-    private World saved = null;
-    private final Deque<World> past = new ArrayDeque<>();
+    private Scene world = new Scene();
+    private Scene saved = null;
+    private final Deque<Scene> past = new ArrayDeque<>();
     private String buffer = "";
     private String line = "";
     private int error = -1;
@@ -86,7 +80,7 @@ final class Model {
     }
 
     private int changed(Change change) {
-        World before = world.copy();
+        Scene before = world.copy();
         try {
             int answer = change.make();
             past.addLast(before);
@@ -137,28 +131,9 @@ final class Model {
     private String words(int table) {
         StringBuilder words = new StringBuilder();
         for (int napkin : heard(table)) {
-            words.append(FOLDS.charAt(at(napkin).fold));
+            words.append(Grammar.FOLDS.charAt(at(napkin).fold));
         }
         return words.toString();
-    }
-
-    private static boolean isSentence(String words) {
-        return SENTENCE.matcher(words).matches();
-    }
-
-    private static boolean isBeginning(String words) {
-        return isSentence(words) || isSentence(words + "f") || isSentence(words + "sf");
-    }
-
-    private static int fewestOf(String words) {
-        if (isSentence(words)) {
-            return 0;
-        }
-        int fewest = 99;
-        for (int i = 0; i < words.length(); i++) {
-            fewest = Math.min(fewest, 1 + fewestOf(words.substring(0, i) + words.substring(i + 1)));
-        }
-        return fewest;
     }
 
     private int makeNapkin(int colour) {
@@ -352,21 +327,15 @@ final class Model {
     }
 
     int wrong(int table) {
-        String words = words(table);
-        for (int i = 0; i < words.length(); i++) {
-            if (!isBeginning(words.substring(0, i + 1))) {
-                return i;
-            }
-        }
-        return isSentence(words) ? -1 : words.length();
+        return Grammar.wrongIn(words(table));
     }
 
     boolean isRight(int table) {
-        return isSentence(words(table));
+        return Grammar.isSentence(words(table));
     }
 
     int phrases(int table) {
-        return isRight(table) ? words(table).split("c").length : 0;
+        return Grammar.phrasesIn(words(table));
     }
 
     int phraseOf(int table, int phrase, int what) {
@@ -390,16 +359,12 @@ final class Model {
     }
 
     int next(int table) {
-        int set = 0;
-        for (int fold = 1; fold <= 4; fold++) {
-            set |= isBeginning(words(table) + FOLDS.charAt(fold)) ? 1 << fold : 0;
-        }
-        return set;
+        return Grammar.nextOf(words(table));
     }
 
     int fewest(int table) {
-        int fewest = fewestOf(words(table));
-        if (fewest == 99) {
+        int fewest = Grammar.fewestOf(words(table));
+        if (fewest > words(table).length()) {
             throw new NoSuchElementException();
         }
         return fewest;
@@ -441,23 +406,13 @@ final class Model {
         return buffer.length();
     }
 
-    private static int errorIn(String text) {
-        for (int i = 0; i < text.length(); i++) {
-            java.util.regex.Matcher matcher = COMMANDS.matcher(text.substring(0, i + 1));
-            if (!matcher.matches() && !matcher.hitEnd()) {
-                return i;
-            }
-        }
-        return text.length();
-    }
-
     private int follow(String command) {
         String digits = command.replaceAll("[^0-9]", "");
         int first = digits.charAt(0) - '0';
         int second = digits.length() > 1 ? digits.charAt(1) - '0' : -1;
         switch (command.substring(0, command.indexOf(' '))) {
             case "new": return makeNapkin(first);
-            case "fold": return makeFold(first, FOLDS.indexOf(command.charAt(6)));
+            case "fold": return makeFold(first, Grammar.FOLDS.indexOf(command.charAt(6)));
             case "open": return makeUnfold(first);
             case "take": return makeTake(first);
             case "wash": return makeWash(first);
@@ -472,11 +427,12 @@ final class Model {
     int read() {
         String text = buffer;
         buffer = "";
-        if (!COMMANDS.matcher(text).matches()) {
-            error = errorIn(text);
+        int found = Form.errorIn(text);
+        if (found >= 0) {
+            error = found;
             throw new IllegalArgumentException();
         }
-        World before = world.copy();
+        Scene before = world.copy();
         String[] commands = text.split(";");
         for (int number = 0; number < commands.length; number++) {
             try {
@@ -513,7 +469,7 @@ final class Model {
     int show(int table) {
         StringBuilder text = new StringBuilder();
         for (int napkin : on(table)) {
-            text.append(napkin).append(FOLDS.charAt(at(napkin).fold)).append(at(napkin).stains > 0 ? "*" : "");
+            text.append(napkin).append(Grammar.FOLDS.charAt(at(napkin).fold)).append(at(napkin).stains > 0 ? "*" : "");
         }
         line = text.toString();
         return line.length();
