@@ -5,35 +5,38 @@ import java.util.ArrayList;
 import java.util.LinkedHashMap;
 import java.util.List;
 import java.util.Map;
+import java.util.Set;
 
-/** The sentences of ../shared/DOC.md; 0 stands for the part "Terms", another number for the promise. */
+/** The sentences of ../shared/DOC.md, part by part; a promise is named "Promise 3", any other part by its heading. */
 final class Document {
     private static final Path PLACE = Path.of("../shared/DOC.md");
     private static final String FENCE = "```";
 
-    private final Map<Integer, List<String>> sentences = new LinkedHashMap<>();
-    private final Map<Integer, String> texts = new LinkedHashMap<>();
+    private final Map<String, List<String>> sentences = new LinkedHashMap<>();
+    private final Map<String, String> texts = new LinkedHashMap<>();
 
     Document() {
-        for (String part : read().split("(?m)^## ")) {
-            if (part.startsWith("Terms\n")) {
-                add(0, part);
-            } else if (part.startsWith("Promise ")) {
-                add(Integer.parseInt(part.replaceAll("(?s)^Promise (\\d+):.*", "$1")), part);
-            }
+        String[] parts = read().split("(?m)^## ");
+        for (int i = 1; i < parts.length; i++) {
+            int end = parts[i].indexOf('\n');
+            add(parts[i].substring(0, end).replaceAll(":.*", ""), parts[i].substring(end));
         }
     }
 
-    boolean has(int promise, String words) {
-        return texts.getOrDefault(promise, "").contains(words);
+    boolean has(String part, String words) {
+        return textOf(part).contains(words);
     }
 
-    Iterable<Integer> promises() {
+    String textOf(String part) {
+        return texts.getOrDefault(part, "");
+    }
+
+    Set<String> parts() {
         return sentences.keySet();
     }
 
-    List<String> sentencesOf(int promise) {
-        return sentences.get(promise);
+    List<String> sentencesOf(String part) {
+        return sentences.get(part);
     }
 
     private static String read() {
@@ -44,9 +47,8 @@ final class Document {
         }
     }
 
-    private void add(int promise, String part) {
-        String body = part.substring(part.indexOf('\n'));
-        texts.put(promise, body.replaceAll("\\s+", " "));
+    private void add(String part, String body) {
+        texts.put(part, body.replaceAll("\\s+", " "));
         List<String> found = new ArrayList<>();
         StringBuilder prose = new StringBuilder();
         boolean isForm = false;
@@ -57,7 +59,7 @@ final class Document {
                 found.add(line.trim());
             } else {
                 // In "Terms" a sentence can go on behind an empty line; a promise has a line for each exception.
-                boolean isNew = promise > 0 && line.isEmpty() || line.startsWith("- ");
+                boolean isNew = part.startsWith("Promise ") && line.isEmpty() || line.startsWith("- ");
                 prose.append(isNew ? "\n" : " ").append(line.replaceAll("^`[^`]*`: ", ""));
             }
         }
@@ -66,6 +68,6 @@ final class Document {
         }
         // A word alone is a heading; what the interface says ahead of its calls is no answer of a call.
         found.removeIf(sentence -> !sentence.contains(" ") || sentence.startsWith("Ahead of the calls "));
-        sentences.put(promise, found);
+        sentences.put(part, found);
     }
 }

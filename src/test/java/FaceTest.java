@@ -3,7 +3,6 @@ import java.lang.reflect.Constructor;
 import java.lang.reflect.Field;
 import java.lang.reflect.Method;
 import java.lang.reflect.Modifier;
-import java.nio.charset.StandardCharsets;
 import java.nio.file.Files;
 import java.nio.file.Path;
 import java.util.Arrays;
@@ -12,14 +11,9 @@ import java.util.TreeSet;
 import java.util.regex.Matcher;
 import java.util.regex.Pattern;
 
-/** The public face, held against the document's own, and what LANGUAGE.md forbids in the file. */
+/** The public face, held against the document's own; nothing else may be seen (LANGUAGE.md, rule 1). */
 public final class FaceTest {
     private static final Path DOCUMENT = Path.of("../shared/DOC.md");
-    private static final String[] FORBIDDEN = {
-        "->", "::", "\\bfinally\\b", "\\bcatch\\b", "\\bsynchronized\\b", "\\bassert\\b", "\\bObject\\b", "\\bSystem\\.(?!arraycopy)",
-        "\\bString\\.", "\\bDouble\\b", "\\bFloat\\b", "Exact\\(", "\\bthrow (?!new )", "\\bnew Random\\b", "\\bpackage\\b", "\\bstatic \\{",
-        "import (?!java\\.util\\.NoSuchElementException;)", "\\bequals\\b", "\\bhashCode\\b", "\\btoString\\b", "[^\\x00-\\x7f]"
-    };
 
     public static void main(String[] args) throws IOException {
         Set<String> due = faceOfTheDocument();
@@ -41,9 +35,6 @@ public final class FaceTest {
         Due.is("the face is the document's", due, () -> face);
         Due.is("nothing else is seen", "[]", () -> seenBeside(type));
         Due.is("no other method has a name of the face", "[]", () -> namesAgain(type, names));
-        if (args.length > 0) {
-            rules(Files.readString(Path.of(args[0]), StandardCharsets.UTF_8));
-        }
         Due.close("FaceTest");
     }
 
@@ -102,35 +93,5 @@ public final class FaceTest {
             }
         }
         return again;
-    }
-
-    private static void rules(String source) {
-        String code = source.replaceAll("(?s)/\\*.*?\\*/", "").replaceAll("//[^\n]*", "");
-        for (String forbidden : FORBIDDEN) {
-            Due.is("LANGUAGE.md: " + forbidden, false, () -> Pattern.compile(forbidden).matcher(code).find());
-        }
-        Due.is("LANGUAGE.md 11: short methods", "[]", () -> longMethods(code));
-    }
-
-    /** A method ends with a brace as far in as its head is. */
-    private static Set<String> longMethods(String code) {
-        Set<String> found = new TreeSet<>();
-        String head = "";
-        int start = 0;
-        String[] lines = code.split("\n");
-        for (int i = 0; i < lines.length; i++) {
-            if (lines[i].matches("^( {4}| {8})[\\w ].*\\)( throws .*)? \\{$") && !lines[i].matches(" *(if|for|while|switch) .*")) {
-                head = lines[i];
-                start = i;
-            }
-            String end = head.replaceAll("\\S.*", "}");
-            if (!head.isEmpty() && lines[i].equals(end)) {
-                if (i - start > 60) {
-                    found.add(head.trim());
-                }
-                head = "";
-            }
-        }
-        return found;
     }
 }

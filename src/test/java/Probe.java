@@ -19,6 +19,11 @@ final class Probe {
     private final NapkinSyntax object = new NapkinSyntax();
     private int calls = 0;
 
+    /** The names of the calls of the face. */
+    static Set<String> names() {
+        return FACE.keySet();
+    }
+
     private static Map<String, Method> face() {
         Map<String, Method> face = new LinkedHashMap<>();
         for (Method method : NapkinSyntax.class.getDeclaredMethods()) {
@@ -54,6 +59,11 @@ final class Probe {
             make("lay " + napkin + " " + table);
         }
         return this;
+    }
+
+    /** How many calls were made so far. */
+    int calls() {
+        return calls;
     }
 
     Object answer(String call, Object... arguments) {

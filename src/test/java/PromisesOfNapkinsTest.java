@@ -487,6 +487,20 @@ public final class PromisesOfNapkinsTest {
         }
     }
 
+    @Says(promise = 11, words = "0 for its colour, 1 for its fold, 2 for its creases, 3 for its stains")
+    static void numbersOfEveryNapkin() {
+        Probe x = Probe.after(World.TEN);
+        for (int napkin = 0; napkin <= 9; napkin++) {
+            int fold = 1 + napkin % 4;
+            x.make("stain " + napkin + "+" + Math.max(1, napkin)).is(napkin % 4, "napkinOf", napkin, 0).is(0, "napkinOf", napkin, 1)
+                .is(0, "napkinOf", napkin, 2).is(Math.max(1, napkin), "napkinOf", napkin, 3);
+            x.make("fold " + napkin + Grammar.FOLDS.charAt(fold)).is(napkin % 4, "napkinOf", napkin, 0).is(fold, "napkinOf", napkin, 1)
+                .is(creasesFor(fold), "napkinOf", napkin, 2).is(Math.max(1, napkin), "napkinOf", napkin, 3);
+            x.make("open " + napkin).is(0, "napkinOf", napkin, 1).is(creasesFor(fold), "napkinOf", napkin, 2)
+                .make("wash " + napkin).is(creasesFor(fold), "napkinOf", napkin, 2).is(0, "napkinOf", napkin, 3);
+        }
+    }
+
     @Says(promise = 11, words = "4 for its table, -1 for none, 5 for its place there, -1 for none")
     static void napkinOnNoTable() {
         Probe.after("new 0").is(-1, "napkinOf", 0, 4).is(-1, "napkinOf", 0, 5).make("lay 0 0").is(0, "napkinOf", 0, 4)

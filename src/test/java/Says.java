@@ -7,8 +7,11 @@ import java.lang.annotation.Target;
 @Retention(RetentionPolicy.RUNTIME)
 @Target(ElementType.METHOD)
 @interface Says {
-    /** The number of the promise; 0 for the part "Terms". */
+    /** The number of the promise, 0 for another part. */
     int promise() default 0;
+
+    /** The part of the document, if it is no promise. */
+    String part() default "Terms";
 
     /** The words as they stand there. */
     String words();

@@ -12,11 +12,15 @@ final class Sentences {
             if (says == null) {
                 continue;
             }
-            Due.under((says.promise() == 0 ? "Terms" : "Promise " + says.promise()) + ": " + says.words() + " | ");
-            Due.is("these words stand in the document", true, () -> document.has(says.promise(), says.words()));
+            Due.under(partOf(says) + ": " + says.words() + " | ");
+            Due.is("these words stand in the document", true, () -> document.has(partOf(says), says.words()));
             test.setAccessible(true);
             test.invoke(null);
         }
         Due.close(tests.getSimpleName());
+    }
+
+    static String partOf(Says says) {
+        return says.promise() > 0 ? "Promise " + says.promise() : says.part();
     }
 }
