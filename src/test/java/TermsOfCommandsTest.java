@@ -73,7 +73,8 @@ public final class TermsOfCommandsTest {
     @Says(words = "command = \"new \" digit | \"fold \" digit letter | ( \"open \" | \"take \" | \"wash \" | \"read \" ) digit "
         + "| \"lay \" digit \" \" digit | \"move \" digit \" \" digit digit | \"stain \" digit \"+\" digit")
     static void oneCharacterOtherwise() {
-        String signs = "/0123456789:;+ sfbcnotwrlmadekhipvq\u00e9";
+        // The last five are a blank, "+", "0", ";" and "s", each with 256 more.
+        String signs = "/0123456789:;+ sfbcnotwrlmadekhipvq\u00e9\u0120\u012b\u0130\u013b\u0173";
         for (String sample : SAMPLES) {
             for (int index = 0; index <= sample.length(); index++) {
                 Form.holds(sample.substring(0, index));
@@ -250,7 +251,19 @@ public final class TermsOfCommandsTest {
         World.NONE_CAME.typed("open 0").refusesText(0);
         World.NONE_CAME.typed("read 3").refusesText(0);
         World.TEN_CAME.typed("stain 0+0").refusesText(0);
+    }
+
+    @Says(words = "9, a command of a text is refused, or its call would throw another exception: its number, from 0, "
+        + "with the reason for which it is refused as the cause, if it is.")
+    static void reason9OfTheFirstCommand() {
+        World.TEN_CAME.typed("open 0;fold 0s").refusesText(0, 2, 0);
+        World.TEN_CAME.typed("open 0;take 9;lay 0 0").refusesText(0, 2, 0);
         World.TEN_CAME.typed("open 0;fold 0s;new 4").refusesText(0, 2, 0);
+        World.NONE_CAME.typed("new 4;new 0").refusesText(0);
+        World.NONE_CAME.typed("open 0;new 0").refusesText(0);
+        World.TEN_CAME.typed("stain 0+0;open 0").refusesText(0);
+        World.TEN_CAME.typed("lay 0 3;take 9;new 4;fold 1s").refusesText(0);
+        World.TEN_CAME.typed("fold 0s;lay 0 3;take 0;fold 1s").refusesText(1);
     }
 
     @Says(words = "The reason, its detail, and the cause with its detail, of the latest refusal are kept.")
