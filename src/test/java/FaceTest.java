@@ -66,12 +66,12 @@ public final class FaceTest {
             }
         }
         for (Method method : type.getDeclaredMethods()) {
-            if (!Modifier.isPublic(method.getModifiers()) && !Modifier.isPrivate(method.getModifiers())) {
+            if (!method.isSynthetic() && !Modifier.isPublic(method.getModifiers()) && !Modifier.isPrivate(method.getModifiers())) {
                 seen.add(method.getName());
             }
         }
         for (Class<?> inside : type.getDeclaredClasses()) {
-            if (!Modifier.isStatic(inside.getModifiers()) || Modifier.isPublic(inside.getModifiers())) {
+            if (Modifier.isPublic(inside.getModifiers()) || Modifier.isProtected(inside.getModifiers())) {
                 seen.add(inside.getSimpleName());
             }
         }
@@ -83,13 +83,6 @@ public final class FaceTest {
         for (Method method : type.getDeclaredMethods()) {
             if (!Modifier.isPublic(method.getModifiers()) && names.contains(method.getName())) {
                 again.add(method.getName());
-            }
-        }
-        for (Class<?> inside : type.getDeclaredClasses()) {
-            for (Method method : inside.getDeclaredMethods()) {
-                if (names.contains(method.getName())) {
-                    again.add(inside.getSimpleName() + "." + method.getName());
-                }
             }
         }
         return again;
